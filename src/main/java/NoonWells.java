@@ -447,7 +447,7 @@ public final class NoonWells {
             return buckets - left;
         }
 
-        /** Takes the shares of a draw that was just shared out and returns what wells above lend. */
+        /** Takes the shares of a draw that was just shared out, and returns what was lent. */
         private int pourShares(int well) {
             int lent = 0;
             for (int giver = 0; giver < wellCount; giver++) {

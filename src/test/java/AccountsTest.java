@@ -11,6 +11,9 @@ public final class AccountsTest {
         waterIsKeptInTheAccounts();
         undoRestoresEachChange();
         undoRestoresAllOfAState();
+        undoGoesBackThroughAllKindsOfChanges();
+        errorsLeaveAFullHistory();
+        twelveWellsAreCounted();
         historyKeepsFour();
         errorsAndQuestionsAreNoChanges();
         undoIsNoChange();
@@ -168,31 +171,113 @@ public final class AccountsTest {
         NoonWells x = busy();
         x.request(0, 900);
         x.request(1, 5);
+        x.set(1, 1);
         int[][] before = seen(x);
-        x.tick(200);
+        Check.due("one of them is drawn", x.tick(200), 1);
         x.undo();
         int[][] then = seen(x);
-        for (int row = 0; row < before.length; row++) {
-            for (int what = 0; what < before[row].length; what++) {
-                Check.due("row " + row + " " + what, then[row][what], before[row][what]);
-            }
-        }
+        same("undone", then, before);
         Check.due("the first of the row", x.requestAt(1, 1), 900);
         Check.due("the second of the row", x.requestAt(2, 1), 5);
     }
 
+    private static void undoGoesBackThroughAllKindsOfChanges() {
+        for (int kind = 0; kind < 8; kind++) {
+            NoonWells x = busy();
+            Check.typeAll(x, "t3;");
+            x.request(0, 60);
+            x.tick(1);
+            x.tick(1);
+            int[][][] before = new int[4][][];
+            for (int i = 0; i < 4; i++) {
+                before[i] = seen(x);
+                Check.holds("change " + (kind + i * 3) % 8, change(x, (kind + i * 3) % 8) >= 0);
+            }
+            for (int i = 3; i >= 0; i--) {
+                Check.due("undo " + i, x.undo(), i);
+                same("kind " + kind + " undone to " + i, seen(x), before[i]);
+            }
+        }
+    }
+
+    private static int change(NoonWells x, int kind) {
+        switch (kind) {
+            case 0: return x.well(0, 10, 1, 1);
+            case 1: return x.drought(1, x.count(2) + 1, x.count(2) + 9);
+            case 2: return x.draw(2, 1);
+            case 3: return x.request(1, 3);
+            case 4: return x.cancel(1);
+            case 5: return x.tick(30);
+            case 6: return x.set(0, x.count(20) + 1);
+            default: return x.play();
+        }
+    }
+
+    private static void same(String what, int[][] rows, int[][] due) {
+        for (int row = 0; row < due.length; row++) {
+            for (int i = 0; i < due[row].length; i++) {
+                Check.due(what + ": row " + row + " " + i, rows[row][i], due[row][i]);
+            }
+        }
+    }
+
+    private static void errorsLeaveAFullHistory() {
+        NoonWells x = new NoonWells();
+        x.well(-1, 10, 1, 1);
+        for (int i = 0; i < 4; i++) {
+            x.tick(1);
+        }
+        Check.due("draw", x.draw(0, 9), NOT);
+        x.type('x');
+        Check.due("play", x.play(), NOT);
+        Check.due("tick", x.tick(0), BAD);
+        x.fault(0);
+        x.waterIn(0, 9);
+        for (int left = 3; left >= 0; left--) {
+            Check.due("undo", x.undo(), left);
+            Check.due("time", x.count(2), left);
+            Check.due("water", x.count(3), left);
+        }
+    }
+
+    private static void twelveWellsAreCounted() {
+        NoonWells x = new NoonWells();
+        x.well(-1, 1000, 1, 1000);
+        for (int i = 1; i < 12; i++) {
+            x.well(0, 10, 5, 5);
+        }
+        x.set(0, 4);
+        x.tick(4);
+        Check.due("lent", x.count(7), 55);
+        Check.due("claims", x.count(9), 55);
+        Check.due("water", x.count(3), 4 + 110);
+        Check.due("spilled", x.count(5), 110);
+        for (int i = 1; i < 12; i++) {
+            x.drought(i, 5, 9);
+        }
+        x.tick(2);
+        Check.due("paid back", x.count(8), 55);
+        Check.due("claim of the last one", x.wellOf(11, 5), 0);
+        Check.due("water of the last one", x.wellOf(11, 4), 10);
+        Check.due("wells right below", x.wellOf(0, 12), 11);
+    }
+
     private static int[][] seen(NoonWells x) {
-        int[][] rows = new int[4][];
+        int[][] rows = new int[6][];
         for (int well = 0; well < 3; well++) {
-            rows[well] = new int[14];
-            for (int what = 0; what < 14; what++) {
-                rows[well][what] = x.wellOf(well, what);
+            rows[well] = new int[10];
+            for (int i = 0; i < 10; i++) {
+                rows[well][i] = x.wellOf(well, i + 4);
             }
         }
         rows[3] = new int[13];
         for (int what = 0; what < 13; what++) {
             rows[3][what] = x.count(what);
         }
+        rows[4] = new int[] {x.requestAt(1, 0), x.requestAt(1, 1), x.requestAt(1, 2),
+            x.requestAt(2, 1)};
+        rows[5] = new int[] {x.droughtOf(0, 0), x.droughtOf(0, 1), x.droughtOf(0, 2),
+            x.count(20), x.count(21)};
         return rows;
     }
 

@@ -12,6 +12,7 @@ public final class DrawsTest {
         requestIsDrawnOrWaits();
         requestLimit();
         cancelClosesTheRow();
+        cancelInAFullRow();
         requestAtTells();
         rowStopsAtTheFirstThatIsNotPossible();
         rowPassesOver();
@@ -153,6 +154,22 @@ public final class DrawsTest {
         Check.due("only", x.cancel(1), 903);
         Check.due("row is empty", x.count(10), 0);
         Check.due("drawn at once again", x.request(0, 1), 0);
+    }
+
+    private static void cancelInAFullRow() {
+        NoonWells x = chain();
+        for (int place = 1; place <= 8; place++) {
+            x.request(1, 900 + place);
+        }
+        Check.due("first", x.cancel(1), 901);
+        Check.due("last", x.cancel(7), 908);
+        Check.due("place 7", x.cancel(7), BAD);
+        for (int place = 1; place <= 6; place++) {
+            Check.due("place " + place, x.requestAt(place, 1), 901 + place);
+        }
+        Check.due("there is a place again", x.request(0, 999), 7);
+        Check.due("and another one", x.request(0, 999), 8);
+        Check.due("no more", x.request(0, 999), LIMIT);
     }
 
     private static void requestAtTells() {

@@ -100,10 +100,12 @@ public final class ModelTest {
             case "droughtOf": return pick(10) == 0 ? wild() : pick(plain.count(1) + 1);
             case "cancel":
             case "requestAt": return pick(10) == 0 ? wild() : pick(plain.count(10) + 2);
-            case "tick": return pick(20) == 0 ? wild() : pick(4) == 0 ? among(1, 24, 200) : 1 + pick(30);
+            case "tick": return pick(20) == 0 ? wild()
+                    : pick(4) == 0 ? among(1, 24, 200) : 1 + pick(30);
             case "set": return pick(20) == 0 ? wild() : pick(2);
             case "count": return pick(20) == 0 ? wild() : pick(23);
-            case "type": return pick(10) == 0 ? among(31, 32, 126, 127, wild()) : among('t', '1', ';');
+            case "type": return pick(10) == 0 ? among(31, 32, 126, 127, wild())
+                    : among('t', '1', ';');
             case "fault": return pick(10) == 0 ? wild() : pick(2);
             default: return aWell();
         }

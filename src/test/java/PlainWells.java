@@ -131,7 +131,8 @@ final class PlainWells {
             int set = 0;
             for (int i = wells.size() - 1; i > 0; i--) {
                 Well w = wells.get(i);
-                for (; w.water > w.capacity / 2 && w.above.water < w.above.capacity; set |= 1 << i) {
+                while (w.water > w.capacity / 2 && w.above.water < w.above.capacity) {
+                    set |= 1 << i;
                     w.water--;
                     w.claim++;
                     w.above.water++;
@@ -144,7 +145,8 @@ final class PlainWells {
         private void evening() {
             for (Well payer : wells) {
                 for (Well w : wells) {
-                    while (w.above == payer && w.claim > 0 && payer.water > 0 && w.water < w.capacity) {
+                    boolean isBelow = w.above == payer;
+                    while (isBelow && w.claim > 0 && payer.water > 0 && w.water < w.capacity) {
                         payer.water--;
                         w.water++;
                         w.claim--;

@@ -9,6 +9,8 @@ public final class TextsTest {
         typeRangesAndLimit();
         clearTextAnswersTheLength();
         formOfOrders();
+        onlyTheTextIsRead();
+        fullTexts();
         rangesOfOrders();
         ordersNotPossibleOtherwise();
         theFirstFaultCounts();
@@ -83,8 +85,8 @@ public final class TextsTest {
         String[] wrong = {";", " ", "d", "t", "t;", "t1", "t1,", "t1,2;", "t1 ;", " t1;", "t 1;",
             "T1;", "x1;", "1;", "t0001;", "t1234;", "t-1;", "t+1;", "d1;", "d1,", "d1,1", "d1,;",
             "d,1;", "d1,1,1;", "d0001,1;", "d1,0001;", "d1;1;", "D1,1;", "r1;", "r1,1", "r1,1,1;",
-            "r,1;", "n1;", "n1,1;", "n1,1,1", "n1,1,1,1;", "n,1,1;", "n1,,1;", "n1,1,;", "n1,1,0001;",
-            "n1,0001,1;", "N1,1,1;", "w1;", "t1:", "t/;", "t:;", "t1a;"};
+            "r,1;", "n1;", "n1,1;", "n1,1,1", "n1,1,1,1;", "n,1,1;", "n1,,1;", "n1,1,;",
+            "n1,1,0001;", "n1,0001,1;", "N1,1,1;", "w1;", "t1:", "t/;", "t:;", "t1a;"};
         for (String text : wrong) {
             fault(text, 0, 1);
         }
@@ -99,6 +101,42 @@ public final class TextsTest {
         fault("t1; t1;", 3, 1);
         fault("t1;t", 3, 1);
         fault("t1;t2;d1,", 6, 1);
+    }
+
+    /** What was cleared is no part of a shorter text. */
+    private static void onlyTheTextIsRead() {
+        String[] cut = {"t", "t1", "t12", "d", "d1", "d1,", "d1,1", "d1,12", "n1,1,1"};
+        for (String text : cut) {
+            NoonWells x = field();
+            Check.typeAll(x, text + "2;");
+            x.clearText();
+            Check.typeAll(x, text);
+            Check.due("position in cut " + text, x.fault(0), 0);
+            Check.due("reason in cut " + text, x.fault(1), 1);
+            x.clearText();
+            Check.typeAll(x, text + ";t1;");
+            x.clearText();
+            Check.typeAll(x, text);
+            Check.due("reason in cut " + text, x.fault(1), 1);
+        }
+    }
+
+    /** Texts of 60 characters, whole and cut off at each place of the last order. */
+    private static void fullTexts() {
+        right("t1;t1;t1;t1;t1;t1;t1;t1;t1;t1;t1;t1;t1;t1;t1;t1;t1;t1;t1;t1;", 20);
+        String orders = "t1;t1;t1;t1;t1;t1;t1;t1;t1;t1;t1;t1;t1;t1;t1;t1;t1;t1;";
+        fault(orders + "t1;n0,", 57, 1);
+        fault(orders + "t1;t12", 57, 1);
+        fault(orders + "t1;t1,", 57, 1);
+        fault(orders + "t1;d1,", 57, 1);
+        fault(orders + "t1;d01", 57, 1);
+        fault(orders + "t1;tt;", 57, 1);
+        fault(orders + "t01;tt", 58, 1);
+        fault(orders + "t001;t", 59, 1);
+        fault(orders + "d001,1", 54, 1);
+        fault(orders + "n1,1,1", 54, 1);
+        fault(orders + "d1,001", 54, 1);
+        right(orders + "d1,01;", 19);
     }
 
     private static void rangesOfOrders() {
