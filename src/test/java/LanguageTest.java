@@ -6,7 +6,9 @@ import java.lang.reflect.Modifier;
 import java.nio.file.Files;
 import java.nio.file.Path;
 import java.util.ArrayList;
+import java.util.LinkedHashMap;
 import java.util.List;
+import java.util.Map;
 import java.util.Set;
 import java.util.TreeSet;
 import java.util.regex.Matcher;
@@ -23,6 +25,10 @@ public final class LanguageTest {
             "int undo()", "int type(int)", "int clearText()", "int fault(int)", "int play()");
     private static final Set<String> CONSTANTS = Set.of(
             "INVALID_ARGUMENT", "NOT_POSSIBLE", "LIMIT_REACHED", "NOT_FOUND");
+    private static final Set<String> LIBRARY = Set.of("Math.min", "Math.max", "Arrays.fill",
+            "Arrays.copyOf", "Arrays.copyOfRange", "System.arraycopy");
+    private static final Pattern METHOD = Pattern.compile("( {4}| {8})[A-Za-z].*?(\\w+)\\(.*\\) \\{");
+    private static final int DEEPEST = 8;
     private static final Set<String> IMPORTS = Set.of("import java.util.Arrays;",
             "import java.util.ArrayList;", "import java.util.List;", "import java.util.Iterator;");
 
@@ -35,7 +41,9 @@ public final class LanguageTest {
         classesInsideAreStatic();
         String source = Files.readString(Path.of("src/main/java/NoonWells.java"));
         wordsAreThoseOfTheLanguage(withoutComments(source));
+        theLibraryIsThatOfTheLanguage(withoutComments(source));
         methodsAreShort(source);
+        callsAreNotDeep(methodsOf(withoutComments(source)));
         Check.end();
     }
 
@@ -117,21 +125,62 @@ public final class LanguageTest {
         }
     }
 
+    private static void theLibraryIsThatOfTheLanguage(String source) {
+        Matcher use = Pattern.compile("\\b([A-Z]\\w+\\.\\w+)\\(").matcher(source);
+        while (use.find()) {
+            Check.holds(use.group(1) + " is of the language", LIBRARY.contains(use.group(1)));
+        }
+    }
+
     /** A method begins with a line that ends in ") {" and ends with a brace of its depth. */
-    private static void methodsAreShort(String source) {
+    private static Map<String, String> methodsOf(String source) {
+        Map<String, String> methods = new LinkedHashMap<>();
         String[] lines = source.split("\n");
-        int methods = 0;
         for (int i = 0; i < lines.length; i++) {
-            Matcher head = Pattern.compile("( {4}| {8})[A-Za-z].*\\) \\{").matcher(lines[i]);
+            Matcher head = METHOD.matcher(lines[i]);
             if (head.matches() && !lines[i].matches(" +(if|for|while|switch) .*")) {
-                int end = i;
-                while (end < lines.length && !lines[end].equals(head.group(1) + "}")) {
-                    end++;
+                StringBuilder body = new StringBuilder();
+                for (int j = i + 1; !lines[j].equals(head.group(1) + "}"); j++) {
+                    body.append(lines[j]).append('\n');
                 }
-                methods++;
-                Check.holds(lines[i] + " has at most sixty lines", end - i <= 60);
+                methods.merge(head.group(2), body.toString(), String::concat);
             }
         }
-        Check.holds("methods were found", methods > FACE.size());
+        return methods;
+    }
+
+    private static void methodsAreShort(String source) {
+        Map<String, String> methods = methodsOf(source);
+        methods.forEach((name, body) -> Check.holds(name + " has at most sixty lines",
+                body.split("\n").length < 60));
+        Check.holds("methods were found", methods.size() > FACE.size());
+        for (Class<?> inside : NoonWells.class.getDeclaredClasses()) {
+            for (Method method : inside.getDeclaredMethods()) {
+                Check.holds(method + " was found", methods.containsKey(method.getName()));
+                Check.holds(method + " takes at most seven", method.getParameterCount() <= 7);
+            }
+        }
+    }
+
+    private static void callsAreNotDeep(Map<String, String> methods) {
+        for (String name : methods.keySet()) {
+            int deep = depthOf(name, methods, 0);
+            Check.holds(name + " goes " + deep + " deep", deep <= DEEPEST);
+        }
+        Check.holds("play goes deeper than its own calls", depthOf("play", methods, 0) > 5);
+    }
+
+    /** How many calls stand open at most, those of the library counted; a circle has no end. */
+    private static int depthOf(String name, Map<String, String> methods, int open) {
+        int deepest = 0;
+        Matcher call = Pattern.compile("\\b([A-Z]\\w+\\.)?(\\w+)\\(").matcher(methods.get(name));
+        while (call.find() && open <= DEEPEST) {
+            if (call.group(1) != null) {
+                deepest = Math.max(deepest, 1);
+            } else if (methods.containsKey(call.group(2))) {
+                deepest = Math.max(deepest, depthOf(call.group(2), methods, open + 1));
+            }
+        }
+        return deepest + 1;
     }
 }
