@@ -1,17 +1,13 @@
 import java.util.Arrays;
 
 /**
- * Wells within wells: a tree of wells with flows, capacities and bursts, draws, lending at noon,
- * droughts, requests that wait, forecasts, accounts, and orders as texts.
+ * The calls answer as ../shared/DOC.md says, which is not told here again. All rows are made with
+ * the object and used again, since all calls of a run share one room.
  */
 public final class NoonWells {
-    /** An argument is out of its range, or there is no such well or drought. */
     public static final int INVALID_ARGUMENT = -1;
-    /** The call is not possible in the present state. */
     public static final int NOT_POSSIBLE = -2;
-    /** A fixed limit has been reached. */
     public static final int LIMIT_REACHED = -3;
-    /** There is no such value. */
     public static final int NOT_FOUND = -4;
 
     private static final int MAX_WELLS = 12;
@@ -21,6 +17,7 @@ public final class NoonWells {
     private static final int MAX_DROUGHTS = 20;
     private static final int MAX_DROUGHT_TIME = 60000;
     private static final int MAX_BUCKETS = 999;
+    // All that a tree can hold: able asks for a draw that only its givers bound.
     private static final int ALL_BUCKETS = MAX_WELLS * MAX_CAPACITY;
     private static final int MAX_WAITING = 8;
     private static final int MAX_TICKS = 200;
@@ -78,11 +75,11 @@ public final class NoonWells {
     private static final int BAD_OTHERWISE = 3;
 
     private final Field now;
+    // Forecasts and texts run on a copy, so that they change nothing and need no way back.
     private final Field trial;
     private final History history;
     private final Script script;
 
-    /** Creates a field without wells. */
     public NoonWells() {
         now = new Field();
         trial = new Field();
@@ -92,19 +89,16 @@ public final class NoonWells {
 
     // ---- wells, droughts
 
-    /** Adds a well without water and returns its number. */
     public int well(int above, int capacity, int flow, int burst) {
         history.note(now);
         return keepIfDone(now.addWell(above, capacity, flow, burst));
     }
 
-    /** Tells a drought and returns its number. */
     public int drought(int well, int from, int to) {
         history.note(now);
         return keepIfDone(now.addDrought(well, from, to));
     }
 
-    /** Returns something of a drought. */
     public int droughtOf(int drought, int what) {
         if (drought < 0 || drought >= now.droughtCount || what < 0 || what >= DROUGHT_ROWS) {
             return INVALID_ARGUMENT;
@@ -112,7 +106,6 @@ public final class NoonWells {
         return now.droughts[what][drought];
     }
 
-    /** Returns something of a well. */
     public int wellOf(int well, int what) {
         if (!now.isWell(well) || what < 0 || what > DRY_NEXT) {
             return INVALID_ARGUMENT;
@@ -126,7 +119,6 @@ public final class NoonWells {
         return now.wells[what][well];
     }
 
-    /** Returns a well above a well. */
     public int aboveAt(int well, int index) {
         if (!now.isWell(well) || index < 0) {
             return INVALID_ARGUMENT;
@@ -137,25 +129,21 @@ public final class NoonWells {
 
     // ---- draws, requests
 
-    /** Draws buckets and returns how many of them come from wells above. */
     public int draw(int well, int buckets) {
         history.note(now);
         return keepIfDone(now.takeDraw(well, buckets));
     }
 
-    /** Makes a request and returns 0 if it is drawn at once, otherwise its place in the row. */
     public int request(int well, int buckets) {
         history.note(now);
         return keepIfDone(now.takeRequest(well, buckets));
     }
 
-    /** Takes a request that waits out of the row and returns its buckets. */
     public int cancel(int place) {
         history.note(now);
         return keepIfDone(now.dropRequest(place));
     }
 
-    /** Returns something of a request that waits. */
     public int requestAt(int place, int what) {
         if (!now.isPlace(place) || what < 0 || what >= REQUEST_ROWS) {
             return INVALID_ARGUMENT;
@@ -163,13 +151,11 @@ public final class NoonWells {
         return now.requests[what][place - 1];
     }
 
-    /** Lets ticks go by and returns how many requests are drawn in them. */
     public int tick(int ticks) {
         history.note(now);
         return keepIfDone(now.passTicks(ticks));
     }
 
-    /** Sets a setting and returns what it was. */
     public int set(int what, int value) {
         history.note(now);
         return keepIfDone(now.changeSetting(what, value));
@@ -177,12 +163,10 @@ public final class NoonWells {
 
     // ---- what would be, which changes nothing
 
-    /** Returns the most buckets that could be drawn from a well now. */
     public int able(int well) {
         return now.isWell(well) ? now.shareOut(well, ALL_BUCKETS) : INVALID_ARGUMENT;
     }
 
-    /** Returns what a well would give to a draw from another one or from itself. */
     public int gives(int well, int buckets, int giver) {
         if (!now.isWell(well) || !areBuckets(buckets) || !now.isWell(giver)) {
             return INVALID_ARGUMENT;
@@ -190,7 +174,6 @@ public final class NoonWells {
         return now.shareOut(well, buckets) == buckets ? now.shares[giver] : NOT_POSSIBLE;
     }
 
-    /** Tells in how many ticks a draw would be possible. */
     public int possibleIn(int well, int buckets) {
         if (!now.isWell(well) || !areBuckets(buckets)) {
             return INVALID_ARGUMENT;
@@ -205,7 +188,6 @@ public final class NoonWells {
         return NOT_FOUND;
     }
 
-    /** Tells the water of a well behind some ticks. */
     public int waterIn(int well, int ticks) {
         if (!now.isWell(well) || ticks < 0 || ticks > MAX_FORECAST) {
             return INVALID_ARGUMENT;
@@ -217,7 +199,6 @@ public final class NoonWells {
         return trial.wells[WATER][well];
     }
 
-    /** Returns the set of the wells that would lend something, if it were noon now. */
     public int lenders() {
         trial.copyFrom(now);
         return trial.lendAtNoon();
@@ -225,7 +206,6 @@ public final class NoonWells {
 
     // ---- accounts
 
-    /** Returns a number. */
     public int count(int what) {
         switch (what) {
             case 0: return now.wellCount;
@@ -249,7 +229,6 @@ public final class NoonWells {
         }
     }
 
-    /** Restores the latest state of the history and returns the number of states left in it. */
     public int undo() {
         if (history.size == 0) {
             return NOT_POSSIBLE;
@@ -260,7 +239,6 @@ public final class NoonWells {
 
     // ---- texts
 
-    /** Appends a character to the text and returns the length of the text. */
     public int type(int character) {
         if (character < FIRST_SIGN || character > LAST_SIGN) {
             return INVALID_ARGUMENT;
@@ -268,14 +246,12 @@ public final class NoonWells {
         return script.append((char) character) ? script.length : LIMIT_REACHED;
     }
 
-    /** Empties the text and returns the length it had. */
     public int clearText() {
         int had = script.length;
         script.length = 0;
         return had;
     }
 
-    /** Tells about the fault of the text. */
     public int fault(int what) {
         if (what != 0 && what != 1) {
             return INVALID_ARGUMENT;
@@ -288,7 +264,6 @@ public final class NoonWells {
         return what == 0 ? script.faultAt : script.reason;
     }
 
-    /** Does all orders of the text as one change and returns how many there are in it. */
     public int play() {
         history.note(now);
         trial.copyFrom(now);
@@ -300,7 +275,8 @@ public final class NoonWells {
         return keepIfDone(script.orders);
     }
 
-    /** A change whose answer is no error makes the state noted ahead of it one of the history. */
+    // Only the answer tells if a call was a change, and by then the state ahead of it is gone: so
+    // each change notes it first, and here it is kept or left to be noted over.
     private int keepIfDone(int answer) {
         if (answer >= 0) {
             history.keep();
@@ -312,7 +288,8 @@ public final class NoonWells {
         return buckets >= 1 && buckets <= MAX_BUCKETS;
     }
 
-    /** All that undo restores. Each of its changes either answers an error or is done whole. */
+    // All that undo restores is in one class, so that a state is one copy. Each change tests all
+    // ahead of the first thing that it alters: an error leaves nothing to take back.
     private static final class Field {
         private final int[][] wells = new int[WELL_ROWS][MAX_WELLS];
         private final int[][] droughts = new int[DROUGHT_ROWS][MAX_DROUGHTS];
@@ -389,8 +366,8 @@ public final class NoonWells {
             return wellCount++;
         }
 
-        /** The well above a well by an index from 0, or NO_WELL if there are not so many. */
         int wellAbove(int well, int index) {
+            // No way up is longer than the wells are many, whatever index is asked for.
             int steps = Math.min(index, MAX_WELLS);
             int found = wells[ABOVE][well];
             for (int step = 0; step < steps && isWell(found); step++) {
@@ -417,7 +394,7 @@ public final class NoonWells {
             return (dryWells(moment) >> well & 1) == 1;
         }
 
-        /** The set of the wells that have a drought at a moment. */
+        // A set, so that a tick goes through the droughts once and not once a well.
         private int dryWells(int moment) {
             int dry = 0;
             for (int drought = 0; drought < droughtCount; drought++) {
@@ -429,10 +406,8 @@ public final class NoonWells {
             return dry;
         }
 
-        /**
-         * Shares a draw out among its givers, as far as they go, and returns what they have for it
-         * together: the draw is possible if this is all of its buckets.
-         */
+        // Apart from the taking, since a draw that falls short, or is only asked about, must leave
+        // all water where it is. A draw is possible if all of its buckets are answered here.
         int shareOut(int well, int buckets) {
             Arrays.fill(shares, 0);
             int left = buckets;
@@ -447,7 +422,7 @@ public final class NoonWells {
             return buckets - left;
         }
 
-        /** Takes the shares of a draw that was just shared out, and returns what was lent. */
+        // Right for the draw that was shared out last, and for no other: it takes these shares.
         private int pourShares(int well) {
             int lent = 0;
             for (int giver = 0; giver < wellCount; giver++) {
@@ -531,7 +506,7 @@ public final class NoonWells {
             return drawn;
         }
 
-        /** Lets one tick go by, without a limit of time, for forecasts may look beyond it. */
+        // Has no limit of time, for that is one of the call tick: forecasts may look beyond it.
         int passTick() {
             time++;
             flowIn();
@@ -560,7 +535,7 @@ public final class NoonWells {
             return wells[CAPACITY][well] - wells[WATER][well];
         }
 
-        /** Lets the wells lend upward and returns the set of those that lent something. */
+        // Answers the set of those that lent, since nothing else tells it afterwards.
         int lendAtNoon() {
             int lenders = 0;
             for (int well = wellCount - 1; well > SPRING; well--) {
@@ -596,7 +571,6 @@ public final class NoonWells {
             wells[GOT_BACK][well] += paid;
         }
 
-        /** Looks at the requests that wait and returns how many of them are drawn. */
         private int serveWaiting() {
             int kept = 0;
             boolean isTried = true;
@@ -618,7 +592,8 @@ public final class NoonWells {
         }
     }
 
-    /** The states that undo restores, in a ring with one slot more for the state noted last. */
+    // A ring, so that the oldest state is dropped without moving the others, with one slot more
+    // than states are kept, so that a noted state costs none of them if its call is refused.
     private static final class History {
         private static final int SLOTS = MAX_HISTORY + 1;
 
@@ -632,7 +607,6 @@ public final class NoonWells {
             }
         }
 
-        /** Notes a state, which is none of the history before it is kept. */
         void note(Field field) {
             states[(oldest + size) % SLOTS].copyFrom(field);
         }
@@ -653,7 +627,7 @@ public final class NoonWells {
         }
     }
 
-    /** The text, and what its last run found. */
+    // A run leaves what it found here, since it finds three things and can answer only one.
     private static final class Script {
         private final char[] signs = new char[MAX_TEXT];
         private final int[] numbers = new int[MAX_NUMBERS];
@@ -672,7 +646,7 @@ public final class NoonWells {
             return true;
         }
 
-        /** Does the orders on a field, up to one that is not possible. */
+        // The field must be a copy: what the orders ahead of a fault did to it stays done.
         void runOn(Field field) {
             orders = 0;
             faultAt = 0;
@@ -694,7 +668,7 @@ public final class NoonWells {
             }
         }
 
-        /** How many numbers an order has, 0 if there is none of this kind. */
+        // Each order has a number, so 0 is free to say that there is no order of this kind.
         private static int numbersOf(char kind) {
             switch (kind) {
                 case 't': return 1;
@@ -705,7 +679,6 @@ public final class NoonWells {
             }
         }
 
-        /** Reads an order from its kind to the sign behind it and tells if it is of its form. */
         private boolean readOrder(char kind) {
             next++;
             int wanted = numbersOf(kind);
